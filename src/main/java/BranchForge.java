@@ -160,7 +160,7 @@ public final class BranchForge {
         return n >= 0 && n < NODES_MAX;
     }
 
-    /** No method of limit bytes needs more than limit / 4 entries, and none at all more than 60: each fits a new table. */
+    /** No method of limit bytes needs more than limit / 4 entries, and none needs 60: each fits a new table. */
     private static boolean isTableSize(int size, int limit) {
         return size == ENTRIES_MAX || size < ENTRIES_MAX && size >= limit / 4;
     }

