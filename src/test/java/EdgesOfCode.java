@@ -10,12 +10,31 @@ public final class EdgesOfCode extends EdgeTest {
     // "Terms": code.
 
     private static void testCode() {
+        stackAtTheBeginning();
         bytesOfFarTest();
         farTestPlaces();
         leafCode();
         nearOrFar();
         partCutOut();
         rootCode();
+    }
+
+    private static void stackAtTheBeginning() {
+        // No code takes off more than it has put on, so all that can show is that no run leaves anything to the next.
+        says("Terms, code", "the stack is empty at the beginning");
+        BranchForge x = twoLevels();
+        x.tree(x.leaf(-5));
+        x.tree(x.split(1, 0, 7, x.leaf(100), x.leaf(200)));
+        x.compile(20, 5);
+        for (int i = 0; i < 3; i++) {
+            due("all by yes", x.predict(), 1 - 5 + 100);
+        }
+        x.set(0, 300);
+        for (int i = 0; i < 3; i++) {
+            due("the first split of each tree by no", x.predict(), 4 - 5 + 200);
+        }
+        x.set(0, -1);
+        due("missing", x.predict(), 4 - 5 + 100);
     }
 
     /**
