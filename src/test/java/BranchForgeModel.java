@@ -356,8 +356,8 @@ public final class BranchForgeModel {
         }
 
         private int anyBits() {
-            int[] some = {0, Integer.MIN_VALUE, 1, -1, Integer.MAX_VALUE, 0x7f800000, 0x7f800001, 0xff800000, 0xff800001,
-                0x7f7fffff, 0xff7fffff, 0x3f800000, 0xbf800000, 2, 3, 5};
+            int[] some = {0, Integer.MIN_VALUE, 1, -1, Integer.MAX_VALUE, 0x7f800000, 0x7f800001, 0xff800000,
+                0xff800001, 0x7f7fffff, 0xff7fffff, 0x3f800000, 0xbf800000, 2, 3, 5};
             return switch (random.nextInt(6)) {
                 case 0 -> random.nextInt();
                 case 1 -> some[random.nextInt(some.length)];
